@@ -428,6 +428,7 @@ public final class PromisesTest {
         due("0", x.wornThen(0, 0), 0);
         due("2", x.wornThen(0, 2), 68);
         due("60", x.wornThen(1, 60), 102);
+        due("2 again", x.wornThen(0, 2), 68);
         due("no bulb", x.wornThen(2, 0), -1);
         due("bulb -1", x.wornThen(-1, 0), -1);
         due("-1", x.wornThen(0, -1), -1);
@@ -451,10 +452,17 @@ public final class PromisesTest {
         due("next", x.goes(-1), 0);
         x = of("b29;w0000;b39;o1;");
         due("cold", x.goes(0), 2);
+        // 34 and 35 an hour: 170 behind five, 140 behind four.
+        x = of("b09;b73;");
+        due("next", x.goes(-1), 1);
+        due("next again", x.goes(-1), 1);
 
         promise = "14 dark";
         due("empty", new OneIsOut().dark(), 1);
         due("five", of("b09;b09;").dark(), 6);
+        x = of("b09;b09;");
+        due("dark", x.dark(), 6);
+        due("as it was", x.dark(), 6);
         due("blinker", of("b42;b09;b09;").dark(), 4);
         due("never", of("b30;o0;").dark(), -4);
         whatLights();
@@ -462,6 +470,8 @@ public final class PromisesTest {
 
     private static void whatLights() {
         promise = "15 lights";
+        due("empty", new OneIsOut().lights(3), 0);
+        due("empty", new OneIsOut().lights(4), -4);
         OneIsOut x = of("b09;b09;b20;b41;");
         due("burns", x.lights(0), 0);
         due("faults", x.lights(1), 4);
@@ -487,6 +497,15 @@ public final class PromisesTest {
         x = of("b30;o0;");
         due("longest", x.lights(3), 60);
         due("none is whole", x.lights(4), -4);
+        due("longest again", x.lights(3), 60);
+        due("the first is at fault", of("b20;b09;").lights(1), 1);
+        due("the first is the weakest", of("b02;b09;b03;").lights(4), 0);
+        due("weakest by its wear", of("b02;b09;b03;w1999;").lights(4), 1);
+        // 3 divides the next hour, not the hour ahead of this one.
+        x = of("b41;b09;b09;h02;");
+        due("burns not in hour 3", x.lights(0), 0);
+        due("faults in hour 3", x.lights(1), 1);
+        due("a knock in hour 3", x.tool(1, 1, 1, 0), 0);
         x = of("b40;");
         due("burns in hour 1", x.lights(0), 1);
         x.breaks(0);
@@ -516,6 +535,11 @@ public final class PromisesTest {
         due("wire 0 .. 2", x.tool(3, 0, 2, 1), 12);
         due("needle 0 .. 2", x.tool(2, 0, 2, 1), 7);
         due("spare 0", x.tool(4, 0, 2, 1), 10);
+        OneIsOut first = of("b00;b00;b00;o0;");
+        due("knock 1", first.tool(1, 1, 1, 0), 0);
+        due("wire 1", first.tool(3, 1, 1, 0), 0);
+        due("spare 1", first.tool(4, 1, 1, 0), 0);
+        due("spare 0", first.tool(4, 0, 0, 0), 1);
         due("tool 5", x.tool(5, 0, 0, 0), -1);
         due("tool -1", x.tool(-1, 0, 0, 0), -1);
         due("i above j", x.tool(0, 1, 0, 0), -1);
@@ -689,6 +713,10 @@ public final class PromisesTest {
         due("n 61", x.beat(0, 61, 0), -1);
         due("what 2", x.beat(0, 1, 2), -1);
         due("what -1", x.beat(0, 1, -1), -1);
+        // Ten: 10 an hour of the first, 11 of the others, whose life is 260.
+        x = of("b00;b79;b79;b79;b79;b79;b79;b79;b79;b79;");
+        due("nine", x.beat(0, 60, 0), 9);
+        due("nine", x.beat(0, 60, 1), 15);
         x = of("b30;b40;o0;o1;");
         due("dark", x.beat(1, 60, 0), 0);
         due("dark", x.beat(1, 60, 1), 0);
@@ -846,6 +874,8 @@ public final class PromisesTest {
             due("one more", x.forged(1), 3);
             fill(x, 1, kind, 0, 2, 6);
             due("the first", x.forged(1), 1);
+            fill(x, 1, kind, 5, 1, 7);
+            due("bulb 0", x.forged(1), 0);
             fill(x, 1, kind, 0, 1, kind == 0 ? -128 : kind == 1 ? -32768 : MIN);
             due("nothing is skipped", x.forged(1), 2);
             x.row(1, kind, 0);
@@ -975,7 +1005,9 @@ public final class PromisesTest {
         due("hundred", x.row(0, 2, 100), 0);
         due("last", x.put(0, 99, 7), 0);
         due("at first", x.element(0, 0), 0);
+        due("first", x.put(0, 0, 7), 0);
         due("again", x.row(0, 2, 100), 0);
+        due("0 at first", x.element(0, 0), 0);
         due("0 at first", x.element(0, 99), 0);
         due("refused", x.row(0, 2, -1), -14);
         due("still there", thrown(x, 0, 99), 0);
@@ -1027,6 +1059,10 @@ public final class PromisesTest {
         due("bulb to nothing", x.copy(2, 0, 1, 0, 0), -11);
         due("a bulb", x.copy(0, 0, 2, 0, -1), -12);
         due("a bulb", x.copy(2, 0, 2, 0, 0), -12);
+        x.row(3, 1, 9);
+        x.keep(3, 1, 0, 0);
+        due("a bulb where a row was", x.copy(0, 0, 3, 0, 1), -12);
+        due("a bulb where a row was", x.copy(3, 0, 0, 0, 1), -12);
         x.row(1, 0, 9);
         due("another kind", x.copy(0, 0, 1, 0, -1), -12);
         fill(x, 1, 1, 1, 2, 3, 4, 5);
