@@ -937,6 +937,7 @@ public final class OneIsOut {
             if (n < 1 || n > HOURS_AHEAD || hour + n > MOST_HOUR) {
                 return false;
             }
+            // Not by pass: the calls of a text would go deeper than the language allows.
             for (int k = 0; k < n; k++) {
                 passHour(1);
             }
