@@ -173,6 +173,20 @@ final class EdgesOfBoxes extends Edges {
         }
     }
 
+    // Promise 32: "(z without its sign's bit over 65536, cut) modulo n"
+    static void p32DrawsNextToTheEdgesOfADigit() {
+        // z becomes 7, 6.99.., 10, 9.99.., 0.99.. and 1 by 65536; then with its sign's bit 0, 7, 6.99.. and all bits.
+        int[] seeds = {
+            1815783043, 2105588510, 778675843, 1068481310, -115164386, -404969853,
+            2088216195, -331700605, -41895138, 230538014, -1916945634,
+        };
+        // FIGURES 7, 6, 0, 9, 0 and 1; then 0, 7, 6, 7 and 7.
+        int[] hours = {3, 2, 1, 3, 1, 2, 1, 3, 2, 3, 3};
+        for (int k = 0; k < seeds.length; k++) {
+            due("seed " + seeds[k], of("00").winters(1, seeds[k], 0), hours[k]);
+        }
+    }
+
     // Promise 32: "FIGURE of each BULB, by numbers, a DRAW below 10"
     static void p32TheSeedGoesOn() {
         // Seed 1 draws 8, 8, 3, 5 and 1, one behind the other.

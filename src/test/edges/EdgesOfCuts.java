@@ -95,6 +95,14 @@ final class EdgesOfCuts extends Edges {
         due("below of none", new OneIsOut().light(-1, 30), -1);
     }
 
+    // Promise 22: "LIGHT with a cut at k (0 none;"
+    static void p22NoCut() {
+        due("two as one", of("09 09").light(0, 30), 10);
+        due("two by themselves", of("09 09").light(1, 30), 6);
+        due("the second is OUT, uncut", out(of("09 09"), 1).light(0, 30), 0);
+        due("the second is OUT, cut", out(of("09 09"), 1).light(1, 30), 3);
+    }
+
     // Promise 22: "of the next n HOURS (0 .. 30)"
     static void p22NoneAndThirty() {
         for (int n : outside(0, 30)) {

@@ -172,6 +172,28 @@ final class EdgesOfHoursOn extends Edges {
         due("one that blinks", at(999, "40").goes(0), 2);
     }
 
+    /** Five that blink and a cold one, which the string wears by 7 of 30, and burns in few hours. */
+    private static final String SELDOM_LIT = "41 42 43 45 49 20 79 79 79 79";
+
+    // Promise 13: "GOES: behind how many HOURS (0 .. 60) one is OUT first; -4"
+    static void p13OutBehindSixtyHours() {
+        // Even hours that 3, 4, 5, 7 and 11 do not divide: 218, 226, 254, 262, 274, 278 and 298.
+        due("the fifth is 274", at(214, SELDOM_LIT).goes(5), 60);
+        due("an hour on", at(215, SELDOM_LIT).goes(5), 59);
+        due("the fifth is 298", at(238, SELDOM_LIT).goes(5), 60);
+        due("an hour ahead", at(237, SELDOM_LIT).goes(5), -4);
+        due("dark behind it", at(214, SELDOM_LIT).goes(0), -4);
+        due("sixty hours on", at(214, SELDOM_LIT).then(60, 0), 1023 - 32);
+        due("sixty hours on, an hour ahead", at(237, SELDOM_LIT).then(60, 0), 1023);
+    }
+
+    // Promise 13: "GOES (-4); NEXT (b -1; -4)."
+    static void p13NextBehindSixtyHours() {
+        due("behind 60", at(214, SELDOM_LIT).goes(-1), 5);
+        due("behind 60", at(238, SELDOM_LIT).goes(-1), 5);
+        due("behind 61", at(237, SELDOM_LIT).goes(-1), -4);
+    }
+
     // Promise 13: "NEXT: who of those WHOLE now, of several the least; -4."
     static void p13NextOfSeveralTheLeast() {
         due("the first", of("01 01 01").goes(-1), 0);
@@ -179,6 +201,14 @@ final class EdgesOfHoursOn extends Edges {
         due("those WHOLE now", out(of("30 09 01 01"), 0).goes(-1), 2);
         due("all ten", worn(of(TEN), 0, 0, 0, 0, 0, 0, 0, 0, 0, 1).goes(-1), 0);
         due("the tenth", worn(of(TEN), 0, 0, 0, 0, 0, 0, 0, 0, 0, 10).goes(-1), 9);
+    }
+
+    // Promise 13: "NEXT: who of those WHOLE now, of several the least; -4."
+    static void p13NextByGlowAndVolts() {
+        // 34 an hour of 150: five hours, 35 of 140: four.
+        due("the brighter one", of("09 73").goes(-1), 1);
+        // 30 of 110: four hours, 34 of 150: five.
+        due("the one that does not glow", of("35 09").goes(-1), 0);
     }
 
     // Promise 13: "GOES (-4); NEXT (b -1; -4)."

@@ -59,6 +59,29 @@ final class EdgesOfShelves extends Edges {
         due("a bulb", x.cost(0), 7);
     }
 
+    // Promise 36: "SHELVES 0 .. 7 each hold nothing (at first), a BULB, a ROW."
+    static void p36WhatTheShelfHeldBeforeIsGone() {
+        OneIsOut x = fill(of("09"), 0, 0, 'b', '0', '0', ';');
+        x.row(1, 0, 4);
+        int[] answers = {-12, -11};
+        for (int k = 0; k < 2; k++) {
+            due("keep", x.keep(0, 1 - k, 0, 5), 0);
+            due("string", x.string(0), answers[k]);
+            due("suspects", x.suspects(0, 0), answers[k]);
+            due("whatIs", x.whatIs(0, 0, 0), answers[k]);
+            due("wornFrom", x.wornFrom(0, 0, 0), answers[k]);
+            due("forged", x.forged(0), answers[k]);
+            due("judge", x.judge(0), answers[k]);
+            due("put", x.put(0, 0, 0), answers[k]);
+            due("put", x.put(0, 4, 0), answers[k]);
+            due("element", thrown(x, 0, 0), 2);
+            due("copy from", x.copy(0, 0, 1, 0, 1), answers[k]);
+            due("copy to", x.copy(1, 0, 0, 0, 1), answers[k]);
+            due("cost", x.cost(0), k == 0 ? 5 : -11);
+            due("toss", x.toss(0), k == 0 ? 5 : -11);
+        }
+    }
+
     // ---- 37: row
 
     // Promise 37: "-1 (n above 100); -14."

@@ -247,6 +247,20 @@ final class EdgesOfTheString extends Edges {
         }
     }
 
+    // Promise 4: "SHELVES 0 .. 7 each hold nothing (at first), a BULB, a ROW."
+    static void p4WhatTheShelfHeldBeforeIsGone() {
+        OneIsOut x = of("00");
+        x.keep(0, 1, 4, 3);
+        x.row(0, 0, 3);
+        due("a row now", x.hangs(0), -12);
+        x.keep(0, 0, 0, 0);
+        due("nothing now", x.hangs(0), -11);
+        x.keep(0, 1, 0, 9);
+        due("a bulb again", x.hangs(0), 1);
+        due("sort", x.bulb(1, 0), 0);
+        due("figure", x.bulb(1, 1), 9);
+    }
+
     // Promise 4: "-2 there is no room"
     static void p4NoRoom() {
         refused(-2, "hangs(1)", Edges::full, x -> x.hangs(1));
@@ -520,6 +534,18 @@ final class EdgesOfTheString extends Edges {
         due("one OUT", out(x, 1).use(1, 0, 0), 0);
     }
 
+    // Promise 9: "BULB i is SEATED from now on"
+    static void p9NoOtherToolSeats() {
+        for (int tool = 0; tool <= 4; tool++) {
+            OneIsOut x = out(at(2, "10 10"), 0);
+            x.hours(1);
+            x.use(tool, 0, 1);
+            due("seated ones by " + tool, x.count(7), tool == 1 ? 1 : 0);
+            x.use(tool, 1, 1);
+            due("seated ones by " + tool, x.count(7), tool == 1 ? 3 : 0);
+        }
+    }
+
     // Promise 9: "2 NEEDLE 3 and j less i: all BULBS i .. j LEAD."
     static void p9NeedleOfOneAndOfAll() {
         OneIsOut x = out(of("00 00 00 00 00 00 00 00 00 00"), 0, 5, 9);
@@ -567,6 +593,19 @@ final class EdgesOfTheString extends Edges {
         due("0", ten.use(4, 0, 9), 0);
         due("9", ten.use(4, 9, 9), 1);
         due("count(3)", ten.count(3), 1);
+        for (int other = 0; other < 10; other++) {
+            due("4, OUT is " + other, out(of(TEN), other).use(4, 4, 4), other == 4 ? 1 : 0);
+        }
+    }
+
+    // Promise 9: "3 WIRE 6 plus twice (j less i): all BULBS but i .. j LEAD."
+    static void p9OneOutOnEitherSideOfWhatIsTold() {
+        for (int other = 0; other < 10; other++) {
+            boolean within = other >= 3 && other <= 5;
+            due("wire 3 .. 5, OUT is " + other, out(of(TEN), other).use(3, 3, 5), within ? 1 : 0);
+            due("needle 3 .. 5, OUT is " + other, out(of(TEN), other).use(2, 3, 5), within ? 0 : 1);
+            due("knock, OUT is " + other, out(of(TEN), other).use(1, 3, 5), 0);
+        }
     }
 
     // Promise 9: "THE HAND is at i then, of NEEDLE and WIRE at j."
@@ -600,6 +639,13 @@ final class EdgesOfTheString extends Edges {
         due("needle", y.use(2, 0, 0), 1);
         due("wire", y.use(3, 1, 1), 1);
         due("spare", y.use(4, 1, 1), 1);
+        // 3 divides 999, not 998 or 1000.
+        due("knock", at(998, "41 00").use(1, 1, 1), 0);
+        due("needle", at(998, "41 00").use(2, 0, 0), 0);
+        due("wire", at(998, "41 00").use(3, 1, 1), 0);
+        due("spare", at(998, "41 00").use(4, 1, 1), 0);
+        due("knock", at(999, "41 00").use(1, 1, 1), 1);
+        due("knock", at(997, "41 00").use(1, 1, 1), 1);
     }
 
     // Promise 9: "SECONDS (0 .. 9999; 0 at first; never more)"
@@ -650,6 +696,18 @@ final class EdgesOfTheString extends Edges {
             refused(-3, "hours(60)", () -> out(at(1000 - many, "30 10"), 0), y -> y.hours(60));
         }
         refused(-3, "hours(1) at 999", () -> at(999, "00"), x -> x.hours(1));
+    }
+
+    // Promise 10: "AN HOUR: HOUR is 1 more."
+    static void p10EachHourIsOneMore() {
+        OneIsOut x = new OneIsOut();
+        for (int hour = 1; hour <= 3; hour++) {
+            due("dark", x.hours(1), 0);
+            due("count(1)", x.count(1), hour);
+        }
+        hang(x, "09");
+        due("lit", x.hours(2), 2);
+        due("count(1)", x.count(1), 5);
     }
 
     // Promise 10: "THE STRING BURNS in it, if there is a BULB and all LEAD then."

@@ -134,6 +134,9 @@ final class EdgesOfTools extends Edges {
             int other = tool == 2 ? 0 : 1;
             due("hour 1000 by " + tool, at(999, "40 00").tool(tool, other, 1, 0), at999[tool]);
             due("hour 999 by " + tool, at(998, "40 00").tool(tool, other, 1, 0), at998[tool]);
+            // 3 divides 999, not 998 or 1000.
+            due("3, hour 999 by " + tool, at(998, "41 00").tool(tool, other, 1, 0), at999[tool]);
+            due("3, hour 1000 by " + tool, at(999, "41 00").tool(tool, other, 1, 0), at998[tool]);
         }
     }
 
@@ -182,6 +185,14 @@ final class EdgesOfTools extends Edges {
         }
         inMind(-4, "halves(4, 4, 1)", Edges::rich, y -> y.halves(4, 4, 1));
         inMind(0, "halves(4, 4, 0)", Edges::rich, y -> y.halves(4, 4, 0));
+    }
+
+    // Promise 17: "(k from a to b less 1)"
+    static void p17OfTwoTheCutIsTheFirst() {
+        for (int a = 0; a < 9; a++) {
+            due("cut", of(TEN).halves(a, a + 1, 1), a);
+            due("worst", of(TEN).halves(a, a + 1, 0), 6);
+        }
     }
 
     // Promise 17: "WORST: the fewest SECONDS that do at worst; CUT: the first k by which it is so, of several the least"
@@ -371,6 +382,21 @@ final class EdgesOfTools extends Edges {
             refused(-11, "suspects(4, " + w + ")", Edges::rich, x -> x.suspects(4, w));
             refused(-12, "suspects(1, " + w + ")", Edges::rich, x -> x.suspects(1, w));
             refused(-12, "suspects(6, " + w + ")", Edges::rich, x -> x.suspects(6, w));
+        }
+    }
+
+    // Promise 20: "-11, -12 (no ROW), -13 unwhole, no such BULB in it, i above j."
+    static void p20WhatTheShelfHeldBeforeIsGone() {
+        for (int[] wrong : new int[][] {{0}, {0, 9, 1}, {1, 0, 1}}) {
+            OneIsOut x = fill(of("00 00"), 0, 0, wrong);
+            due("a row", x.suspects(0, 0), -13);
+            x.keep(0, 1, 0, 0);
+            due("a bulb now", x.suspects(0, 0), -12);
+            x.row(0, 0, 0);
+            due("an empty row now", x.suspects(0, 0), 3);
+            fill(x, 0, 0, wrong);
+            x.keep(0, 0, 0, 0);
+            due("nothing now", x.suspects(0, 0), -11);
         }
     }
 

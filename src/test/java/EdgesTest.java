@@ -2,6 +2,7 @@ import java.lang.reflect.InvocationTargetException;
 import java.lang.reflect.Method;
 import java.lang.reflect.Modifier;
 import java.nio.charset.StandardCharsets;
+import java.nio.file.DirectoryStream;
 import java.nio.file.Files;
 import java.nio.file.Path;
 import java.util.ArrayList;
@@ -34,6 +35,7 @@ public final class EdgesTest {
     public static void main(String[] args) throws Exception {
         String document = oneLine(Files.readString(Path.of("../shared/DOC.md"), StandardCharsets.UTF_8));
         Map<Integer, Integer> tests = new TreeMap<>();
+        allFilesAreRun();
         for (Class<?> edges : EDGES) {
             Set<String> quoted = quoting(edges, document);
             for (Method test : testsOf(edges)) {
@@ -55,6 +57,20 @@ public final class EdgesTest {
         System.out.println(all + " edges, " + Edges.checks() + " checks, " + Edges.wrong() + " wrong");
         if (Edges.wrong() != 0) {
             System.exit(1);
+        }
+    }
+
+    private static void allFilesAreRun() throws Exception {
+        Set<String> run = new TreeSet<>(Set.of("Edges.java"));
+        for (Class<?> edges : EDGES) {
+            run.add(edges.getName() + ".java");
+        }
+        Set<String> found = new TreeSet<>();
+        try (DirectoryStream<Path> files = Files.newDirectoryStream(Path.of("src/test/edges"), "*.java")) {
+            files.forEach(file -> found.add(file.getFileName().toString()));
+        }
+        if (!found.equals(run)) {
+            Edges.fault("src/test/edges holds " + found + ", run are " + run);
         }
     }
 
